@@ -978,30 +978,24 @@ public final class PicturePegs {
             return length;
         }
 
-        // A sentence takes at least one byte, so there are no more of them than bytes.
+        // A sentence takes at least one byte, so there are no more of them than bytes. Where a
+        // reader below answers false, the token at fault is still the current one.
         int tell(Town town) {
+            boolean asTold = true;
             next = 0;
             advance();
-            for (int i = 0; i < MOST && sort != END; i++) {
-                if (!tellSentence(town)) {
-                    return start;
+            for (int i = 0; i < MOST && asTold && sort != END; i++) {
+                if (isNameFrom(FIRST_KIND, KINDS)) {
+                    asTold = tellPerson(town, value - FIRST_KIND);
+                } else if (isNameFrom(FIRST_PEG, PEGS)) {
+                    asTold = tellWeight(town, value - FIRST_PEG);
+                } else if (isNameFrom(FIRST_LAW, LAWS)) {
+                    asTold = tellLaw(town, value - FIRST_LAW);
+                } else {
+                    asTold = false;
                 }
             }
-            return NO_FAULT;
-        }
-
-        // Each of the readers below answers false with the token at fault still the current one.
-        private boolean tellSentence(Town town) {
-            if (isNameFrom(FIRST_KIND, KINDS)) {
-                return tellPerson(town, value - FIRST_KIND);
-            }
-            if (isNameFrom(FIRST_PEG, PEGS)) {
-                return tellWeight(town, value - FIRST_PEG);
-            }
-            if (isNameFrom(FIRST_LAW, LAWS)) {
-                return tellLaw(town, value - FIRST_LAW);
-            }
-            return false;
+            return asTold ? NO_FAULT : start;
         }
 
         private boolean tellPerson(Town town, int kind) {

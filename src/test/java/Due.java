@@ -31,8 +31,17 @@ final class Due {
         }
     }
 
-    /** Feeds a text of signs 0 to 255 to the tape; answers what the last feed() answered. */
+    /** What takes bytes as feed() does. */
+    interface Tape {
+        int feed(long eight, int n);
+    }
+
     static int feed(PicturePegs pegs, String text) {
+        return bytesTo(pegs::feed, text);
+    }
+
+    /** Feeds a text of signs 0 to 255 to a tape; answers what the last feed() answered. */
+    static int bytesTo(Tape tape, String text) {
         int answer = 0;
         for (int from = 0; from < text.length(); from += 8) {
             int n = Math.min(8, text.length() - from);
@@ -40,7 +49,7 @@ final class Due {
             for (int i = 0; i < n; i++) {
                 eight |= (long) (text.charAt(from + i) & 255) << 8 * i;
             }
-            answer = pegs.feed(eight, n);
+            answer = tape.feed(eight, n);
         }
         return answer;
     }

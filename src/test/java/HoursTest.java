@@ -112,6 +112,25 @@ final class HoursTest {
         x.set(3, 0);
         x.hour();
         DUE.is("18 chance 0 takes two draws", x.seed(0), next(next(0)));
+        chanceIsBelow();
+    }
+
+    // One alone is drawn too; what the second draw leaves by 100 is tried as CHANCE, and 1 more.
+    private static void chanceIsBelow() {
+        int left = (next(next(5)) >>> 16) % 100;
+        int place = (next(next(next(5))) >>> 16) % 12;
+        DUE.holds("18 a seed whose draws tell", left < 99 && place != 7);
+        PicturePegs x = new PicturePegs();
+        x.person(5, 0, 0, 7);
+        x.seed(5);
+        x.set(3, left);
+        x.hour();
+        DUE.is("18 not below CHANCE", x.of(0, 3), 7);
+        DUE.is("18 two draws", x.seed(5), next(next(5)));
+        x.set(3, left + 1);
+        x.hour();
+        DUE.is("18 below CHANCE", x.of(0, 3), place);
+        DUE.is("18 three draws", x.seed(5), next(next(next(5))));
     }
 
     private static void founds() {
@@ -140,6 +159,7 @@ final class HoursTest {
             }
         }
         DUE.is("19 found(30)", x.found(30), due);
+        foundOneByOne(x);
         DUE.holds("19 some are found", due > 0);
         DUE.is("19 again the same", x.found(30), due);
         DUE.is("19 nothing changed", x.of(0, 3), 4);
@@ -149,7 +169,28 @@ final class HoursTest {
         DUE.is("19 none is more than behind an hour", x.found(30), 0);
     }
 
+    // With so sure a chance each draw of three goes on from the one before: n tells how many.
+    private static void foundOneByOne(PicturePegs x) {
+        int z = 42;
+        int due = 0;
+        for (int n = 1; n <= 30; n++) {
+            PicturePegs y = new PicturePegs();
+            y.person(5, 0, 0, 4);
+            y.person(5, 0, 0, 8);
+            y.set(3, 99);
+            y.seed(z);
+            due += y.hour();
+            z = y.seed(0);
+            DUE.is("19 found(" + n + ")", x.found(n), due);
+        }
+    }
+
     private static void states() {
+        PicturePegs single = new PicturePegs();
+        for (int i = 0; i < 4; i++) {
+            DUE.is("20 circles of one", single.state(4), i);
+            single.person(0, 0, 0, i);
+        }
         PicturePegs x = new PicturePegs();
         x.person(0, 0, 0, 0);
         x.person(0, 0, 0, 11);

@@ -82,6 +82,13 @@ final class PeopleTest {
         x.weigh(2, 9);
         DUE.is("8 a tenth of 9", x.leans(0, 7), 1000);
         DUE.is("8 below 0", x.leans(2, 7), 999);
+        int[][] tenths = {{0, 0}, {9, 0}, {10, 1}, {19, 1}, {90, 9}, {99, 9}};
+        for (int[] t : tenths) {
+            x.age(4, t[0]);
+            DUE.is("8 a cracker of age " + t[0], x.leans(4, 0), 999 + t[1]);
+            x.weigh(2, t[0]);
+            DUE.is("8 a twin of weight " + t[0], x.leans(5, 0), 1000 + t[1]);
+        }
         DUE.is("8 no such one", x.leans(6, 7), BAD);
         DUE.is("8 no such one", x.leans(-1, 7), BAD);
         DUE.is("8 hour 10000", x.leans(0, 10000), BAD);

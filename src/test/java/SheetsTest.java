@@ -27,7 +27,9 @@ final class SheetsTest {
         DUE.is("38 a refused call", x.sheet(0, 0, 41), BAD);
         DUE.is("38 a refused call", x.sheet(0, 0, -1), -14);
         DUE.is("40 stays", x.item(0, 2, 39), 5);
+        x.put(0, 0, 7);
         DUE.is("38 anew", x.sheet(0, 2, 40), 1);
+        DUE.is("40 all 0", x.item(0, 2, 0), 0);
         DUE.is("40 all 0", x.item(0, 2, 39), 0);
         DUE.is("38 of none", x.sheet(0, 1, 0), 1);
         DUE.is("40 of none", x.item(0, 1, 0), -12);

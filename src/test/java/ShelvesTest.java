@@ -188,6 +188,8 @@ final class ShelvesTest {
         for (int what = 0; what < due.length; what++) {
             DUE.is("45 many(" + what + ")", x.many(what), due[what]);
         }
+        x.mind(0, 0, 0);
+        DUE.is("45 one more peg", x.many(2), 3);
         DUE.is("45 many(7)", x.many(7), BAD);
         DUE.is("45 many(-1)", x.many(-1), BAD);
     }

@@ -6,6 +6,7 @@ final class TextTest {
         newObject();
         tape();
         schools();
+        fullTape();
         faults();
         faultChangesNothing();
         ninthPerson();
@@ -59,6 +60,15 @@ final class TextTest {
         DUE.is("2 lowest first", x.feed(0x3b20_376c_6c65_62L, 7), 7);
         DUE.is("2 school()", x.school(), 0);
         DUE.is("2 lawOf(0)", x.lawOf(0), 7);
+        // nothing of a tape that is used up is read again
+        DUE.is("3 a longer text", Due.school(x, "bellxx"), -100);
+        DUE.is("3 a NAME at the end", Due.school(x, "bell"), -104);
+        DUE.is("3 a longer text", Due.school(x, "bell 33"), -105);
+        DUE.is("3 a NUMBER at the end", Due.school(x, "bell 3"), -106);
+        DUE.is("3 a longer text", Due.school(x, "bell 3 ;   ;"), -111);
+        DUE.is("3 blanks at the end", Due.school(x, "bell 3 ; "), 0);
+        DUE.is("3 a longer text", Due.school(x, "bell 3   "), -109);
+        DUE.is("3 the end", Due.school(x, "bell 3"), -106);
     }
 
     private static void schools() {
@@ -89,6 +99,22 @@ final class TextTest {
         DUE.is("3 a sentence over many feeds", Due.school(x, "  twin   at3age4had drum;  "), 1);
         DUE.is("3 of(0, 1)", x.of(0, 1), 1);
         DUE.is("3 of(0, 2)", x.of(0, 2), 4);
+    }
+
+    // The last byte of a full tape ends whatever it stands in.
+    private static void fullTape() {
+        StringBuilder sentences = new StringBuilder();
+        while (sentences.length() < 192) {
+            sentences.append("kite weighs 10; ");
+        }
+        String[] ends = {"room  8;", "bell 8; ", "bell   1", "bellbell", "bell    ", "pull 999",
+            "99999999"};
+        int[] due = {0, 0, -300, -292, -300, -297, -292};
+        for (int i = 0; i < ends.length; i++) {
+            PicturePegs x = new PicturePegs();
+            DUE.is("2 feed of 200", Due.feed(x, sentences + ends[i]), 200);
+            DUE.is("3 school() ending in '" + ends[i] + "'", x.school(), due[i]);
+        }
     }
 
     private static void fault(String text, int place) {
@@ -142,6 +168,10 @@ final class TextTest {
         fault("bell 3;" + (char) 233, 7);
         fault("bell 3;" + (char) (128 + ';'), 7);
         fault("bell 3; pupil at 3; x", 20);
+        fault("pupilz at 3;", 0);
+        fault("apupil at 3;", 0);
+        fault("xupil at 3;", 0);
+        fault("pupia at 3;", 0);
         fault("burglars at 3;", 0);
         fault("burglarburglar at 3;", 0);
     }

@@ -198,6 +198,9 @@ final class TriedTest {
         x.put(0, 1, 2);
         DUE.is("30 none", x.fits(0, 0, 0), 0);
         DUE.is("30 none", x.fits(0, 0, 1), NONE);
+        x.put(0, 0, 0);
+        x.put(0, 1, -1);
+        DUE.is("30 the first number tells too", x.fits(0, 0, 0), 4);
         x.put(0, 1, -2);
         DUE.is("30 -2 is no number of others", x.fits(0, 0, 0), 0);
         x.sheet(1, 0, 0);
