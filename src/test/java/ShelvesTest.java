@@ -135,6 +135,8 @@ final class ShelvesTest {
         x.mind(0, 0, 2);
         DUE.is("43 cut towards 0", x.act(0, 2, -7), -3);
         DUE.is("43 the peg as it is now", x.act(0, 1, 0), 2);
+        x.mind(0, 4, 2);
+        DUE.is("43 a cracker's hooks, 28 ^ 8", x.act(0, 0, -4), 20);
     }
 
     private static void partedByZero() {
